@@ -21,7 +21,10 @@ public final class PromisesTest {
     public static void main(String[] args) {
         PromisesTest test = new PromisesTest();
         test.theLake();
+        test.lakeBehindLake();
+        test.wholeTape();
         test.theForm();
+        test.likeWords();
         test.theNames();
         test.theBounds();
         test.theRoom();
@@ -39,6 +42,7 @@ public final class PromisesTest {
         test.images();
         test.whatIsTold();
         test.withoutLake();
+        test.eachAlone();
         test.due.end();
     }
 
@@ -133,6 +137,83 @@ public final class PromisesTest {
         due.refused("back to an image of the former lake", x, x.back(0), 1);
     }
 
+    /** Nothing of a lake is left in the next one, nor in the one behind that. */
+    private void lakeBehindLake() {
+        CorkStreet x = Due.lakeOf(STREET);
+        for (int i = 0; i < 3; i++) {
+            due.fine("a small lake", x, Due.lake(x, "lake mice 0;house a south weight 0"), 1);
+            for (int what = 0; what <= 12; what++) {
+                due.is("size(" + what + ") of it", x.size(what), what == 1 ? 1 : 0);
+            }
+            for (int kind = 0; kind < 5; kind++) {
+                due.is("its corks", x.corks(0, kind), 0);
+            }
+            due.is("its side", x.house(0, 0), 1);
+            due.is("its raft", x.house(0, 4), 1);
+            due.is("its guests", x.house(0, 5), 0);
+            due.is("its height", x.house(0, 3), 1000);
+            due.is("its sets", x.sets(), 1);
+            due.refused("its rope", x, x.rope(0, 0), 1);
+            due.refused("its guest", x, x.guest(0, 0), 1);
+            due.refused("its drinker", x, x.planDays(0, 1), 1);
+            due.refused("a fault behind much", x, Due.lake(x, STREET + ";"), 4);
+            due.refused("a name of a former text", x, Due.lake(x, "lake mice 0;corks ann"), 4);
+            due.is("isn't told", x.fault(), 2);
+            due.is("still small", x.size(1), 1);
+        }
+    }
+
+    /** A text up to the last byte that THE TAPE has room for. */
+    private void wholeTape() {
+        StringBuilder text = new StringBuilder("lake mice 7;house a north weight 3;corks a red");
+        while (text.length() < 999) {
+            text.append(' ');
+        }
+        text.append('9');
+        CorkStreet x = new CorkStreet();
+        due.fine("lake(1000)", x, Due.lake(x, text.toString()), 1);
+        due.is("corks by the last byte", x.corks(0, 0), 9);
+        text.setCharAt(999, ';');
+        due.refused("lake(1000) with a fault", x, Due.lake(x, text.toString()), 4);
+        due.is("where", x.where(), 999);
+        text.setCharAt(999, ' ');
+        due.refused("lake(1000) without an end", x, Due.lake(x, text.toString()), 4);
+        due.is("where", x.where(), 1000);
+    }
+
+    /** Words that are alike but for a letter are other words, and so are names. */
+    private void likeWords() {
+        String text = "lake mice 5;house a north weight 5;house b south weight 5;rope a b;corks a red 1;corks a stale 1;"
+                + "corks a soft 1;corks a white 1;corks a fizzy 1;guest g weight 5 at a;drinker d red drinks 1;drinker e white drinks 1;"
+                + "drinker f fizzy drinks 1;feast a week 1 high 1;gave d a 1;seen a over 1;seen b below 1";
+        noFault(text, 2);
+        for (int at = 0; at < text.length(); at++) {
+            boolean single = at == 0 || !letter(text, at - 1) && !letter(text, at + 1);
+            if (letter(text, at) && !single || at == 0) {
+                int first = at;
+                while (first > 0 && letter(text, first - 1)) {
+                    first--;
+                }
+                fault(text.substring(0, at) + (char) ('a' + (text.charAt(at) - 'a' + 13) % 26) + text.substring(at + 1), 1, first);
+            }
+        }
+        String[] names = {"a", "z", "aa", "az", "ba", "ab", "zz", "aaa", "abcdefgh", "bbcdefgh", "abcdefgi"};
+        for (String one : names) {
+            for (String other : names) {
+                String two = "lake mice 5;house " + one + " north weight 5;house ";
+                if (one.equals(other)) {
+                    fault(two + other, 3, two.length());
+                } else {
+                    noFault(two + other + " south weight 5;rope " + other + " " + one, 2);
+                }
+            }
+        }
+    }
+
+    private static boolean letter(String text, int at) {
+        return at >= 0 && at < text.length() && Character.isLowerCase(text.charAt(at));
+    }
+
     private void theForm() {
         noFault("lake mice 0;house a north weight 0", 1);
         noFault("   lake   mice100;house   a north weight99   ;   house lakes south weight 099  ", 2);
@@ -222,6 +303,7 @@ public final class PromisesTest {
         faultAt("rope a b;rope a b", "b", 3);
         faultAt("rope a b;rope b a", "a", 3);
         faultAt("corks a red 3;corks b red 3;corks a white 3;corks a red", "red", 3);
+        faultAt("corks a fizzy 1;corks a fizzy", "fizzy", 3);
         faultAt("seen a over 1;seen b over 1;seen a", "a", 3);
         faultAt("seen a below 1;seen a", "a", 3);
         faultAt("lake", "lake", 3);
@@ -538,6 +620,13 @@ public final class PromisesTest {
         due.fine("4 more lift 10", few, few.plan(4), 4);
         due.is("on 4 days", few.planDays(0, 4), 4);
         due.fine("3 more aren't", few, few.plan(2), -2);
+        few.drink(0, 0);
+        few.drink(0, 0);
+        few.drink(0, 0);
+        few.drink(0, 0);
+        due.fine("nobody under", few, few.plan(1), 0);
+        due.fine("no days", few, few.planDays(0, 1), 0);
+        due.fine("no house", few, few.planHouse(0, 1), -2);
         due.fine("nobody under, no drinker", few, Due.lakeOf("lake mice 0;house b north weight 0").plan(1), 0);
         due.fine("under, no drinker", few, Due.lakeOf(TWO).plan(4), -2);
     }
@@ -576,6 +665,10 @@ public final class PromisesTest {
         due.fine("feasts(1), white", late, late.feasts(1), 1);
         due.is("p nowhere", late.feastHouse(0, 1), -2);
         due.is("q at b", late.feastHouse(1, 1), 1);
+        CorkStreet gone = Due.lakeOf("lake mice 0;house b north weight 0;feast b week 3 high 1;drinker p red drinks 9");
+        due.fine("red is gone in week 3", gone, gone.feasts(4), -2);
+        gone = Due.lakeOf("lake mice 0;house b north weight 0;feast b week 2 high 9;drinker p red drinks 9");
+        due.fine("and soft in week 2", gone, gone.feasts(4), 9);
         CorkStreet two = Due.lakeOf("lake mice 0;house a south weight 0;house b north weight 0;feast b week 2 high 1;feast b week 1 high 3;"
                 + "drinker p red drinks 1");
         due.fine("two days for 3 in week 1", two, two.feasts(4), 2);
@@ -640,6 +733,12 @@ public final class PromisesTest {
         due.fine("ask", q, q.ask(), 1);
         due.fine("askLeaves", q, q.askLeaves(), 1);
         due.fine("judge, as told", q, q.judge(), 0);
+        // One of p and q, but not both: what is in the first set isn't in all.
+        CorkStreet either = Due.lakeOf("lake mice 0;house a north weight 4;drinker p white drinks 1;drinker q white drinks 1;"
+                + "gave p a 1;gave q a 1;seen a below 2");
+        due.fine("sets of either", either, either.sets(), 2);
+        due.fine("surely neither", either, either.surely(), 0);
+        due.fine("could be both", either, either.could(), 3);
         // Nothing was seen: all sets fit.
         CorkStreet all = Due.lakeOf(three + "gave p a 1");
         due.fine("all sets", all, all.sets(), 8);
@@ -702,6 +801,10 @@ public final class PromisesTest {
         due.fine("value(2)", y, y.value(2), 0);
         y.cut(0);
         due.fine("value(2), cut", y, y.value(2), 1);
+        CorkStreet deep = Due.lakeOf("lake mice 0;house a north weight 99;house b north weight 99");
+        for (int n = 0; n <= 4; n++) {
+            due.fine("value(" + n + ") of the deep", deep, deep.value(n), 0);
+        }
         // Of like cuts the first.
         CorkStreet z = Due.lakeOf("lake mice 0;house a north weight 9;house b north weight 0;house c north weight 9;"
                 + "rope a b;rope c b;corks b soft 18");
@@ -1044,6 +1147,7 @@ public final class PromisesTest {
         led(x, 0, 0);
         led(x, 1, 3);
         led(x, 2, -99);
+        led(Due.lakeOf("lake mice 0;house a north weight 0;house b north weight 1"), 0, 1);
         due.refused("cut", x, x.cut(0), 5);
         led(x, 9, -99);
         due.is("trouble stays by calls that are never refused", x.trouble(), 5);
@@ -1111,5 +1215,55 @@ public final class PromisesTest {
             due.is("size(" + i + ")", x.size(i), 0);
         }
         due.is("size(13)", x.size(13), -1);
+    }
+
+    /** Each question as the first call of a lake: none lives on what another one worked out. */
+    private void eachAlone() {
+        due.is("house", Due.lakeOf(STREET).house(2, 3), 998);
+        due.is("house", Due.lakeOf(STREET).house(3, 4), 8);
+        due.is("under", Due.lakeOf(STREET).under(), 7);
+        due.is("lowest", Due.lakeOf(STREET.replace("weight 12", "weight 0").replace("weight 9", "weight 8")).lowest(), 3);
+        due.is("rafts", Due.lakeOf(STREET).rafts(), 2);
+        due.is("tilt", Due.lakeOf(STREET).tilt(0), 7);
+        due.is("heightIn", Due.lakeOf(STREET).heightIn(0, 2), 994);
+        due.is("underIn", Due.lakeOf(STREET).underIn(2), 7);
+        due.is("sinks", Due.lakeOf(STREET).sinks(0), 0);
+        due.is("wetFeast", Due.lakeOf(STREET).wetFeast(), 1);
+        due.is("aunt", Due.lakeOf(STREET).aunt(0, 0, 0), 2);
+        due.is("bestStay", Due.lakeOf(STREET).bestStay(9), 0);
+        due.is("bestStay", Due.lakeOf(STREET).bestStay(0), 0);
+        due.is("bestStay: -5 by 3 is as low as -4 by 3", Due.lakeOf(STREET).bestStay(1), 0);
+        due.is("bestStay: -7 by 3 isn't", Due.lakeOf(STREET).bestStay(3), 3);
+        due.is("bestMove", Due.lakeOf(STREET).bestMove(0), 0);
+        due.is("bestMove", Due.lakeOf("lake mice 0;house a north weight 0;house b north weight 0;corks b white 3;"
+                + "guest g weight 4 at a").bestMove(0), 1);
+        due.is("bestCut", Due.lakeOf(STREET).bestCut(), 1);
+        due.is("plan", Due.lakeOf(STREET).plan(1), 2);
+        due.is("planDays", Due.lakeOf(STREET).planDays(1, 1), 1);
+        due.is("planHouse", Due.lakeOf(STREET).planHouse(1, 1), 0);
+        String dry = STREET.replace("feast dot week 9 high 3", "feast dot week 9 high 2");
+        due.is("feasts", Due.lakeOf(dry).feasts(4), 14);
+        due.is("feastHouse", Due.lakeOf(dry).feastHouse(0, 4), 0);
+        due.is("sets", Due.lakeOf(STREET).sets(), 1);
+        due.is("setAt", Due.lakeOf(STREET).setAt(0), 1);
+        due.is("could", Due.lakeOf(STREET).could(), 1);
+        due.is("surely", Due.lakeOf(STREET).surely(), 1);
+        due.is("ask", Due.lakeOf(STREET).ask(), 0);
+        due.is("askLeaves", Due.lakeOf(STREET).askLeaves(), 1);
+        due.is("judge", Due.lakeOf(STREET).judge(), 1);
+        due.is("value", Due.lakeOf(STREET).value(0), 1);
+        due.is("value", Due.lakeOf(STREET).value(2), 1);
+        due.is("kingCuts", Due.lakeOf("lake mice 0;house a north weight 0;house b north weight 1;rope a b;corks a white 1").kingCuts(1), 0);
+        due.is("dry", Due.lakeOf(STREET.replace("cid north weight 9", "cid north weight 8")).dry(2, 1, false), 3);
+        due.is("dry", Due.lakeOf(STREET.replace("cid north weight 9", "cid north weight 8")).dry(2, 1, true), 4);
+        due.is("mean", Due.lakeOf(STREET).mean(2, 1, false), 3995);
+        due.is("mean", Due.lakeOf(STREET).mean(2, 1, true), 4);
+        due.is("losses", Due.lakeOf(STREET).losses(2, 1, true), 4);
+        due.is("safest", Due.lakeOf(STREET).safest(0), 2);
+        due.is("weeks", Due.lakeOf(STREET).weeks(2, 0, 1), 995);
+        due.is("eaten", Due.lakeOf(STREET).eaten(0, 1), 1);
+        due.is("sunkAt", Due.lakeOf(STREET).sunkAt(0, 1), 0);
+        due.is("week", Due.lakeOf(STREET).week(), 7);
+        led(Due.lakeOf(STREET), 2, 2);
     }
 }
