@@ -1006,12 +1006,24 @@ public final class CorkStreet {
                 at++;
             }
             next = at;
-            if (at >= end) {
+            letters = 0;
+            while (next < end && isLetter(text[next])) {
+                letters = letters * 27 + (text[next] - 'a' + 1);
+                next++;
+            }
+            if (next > at) {
+                sort = next - at <= LONGEST_WORD ? WORD : NO_TOKEN;
+                return;
+            }
+            number = 0;
+            while (next < end && isDigit(text[next])) {
+                number = number * 10 + (text[next] - '0');
+                next++;
+            }
+            if (next > at) {
+                sort = next - at <= LONGEST_WHOLE ? WHOLE : NO_TOKEN;
+            } else if (at >= end) {
                 sort = END;
-            } else if (isLetter(text[at])) {
-                takeWord();
-            } else if (isDigit(text[at])) {
-                takeWhole();
             } else {
                 sort = text[at] == ';' ? SEMICOLON : NO_TOKEN;
                 next++;
@@ -1028,24 +1040,6 @@ public final class CorkStreet {
                 }
             }
             return true;
-        }
-
-        private void takeWord() {
-            letters = 0;
-            while (next < end && isLetter(text[next])) {
-                letters = letters * 27 + (text[next] - 'a' + 1);
-                next++;
-            }
-            sort = next - at <= LONGEST_WORD ? WORD : NO_TOKEN;
-        }
-
-        private void takeWhole() {
-            number = 0;
-            while (next < end && isDigit(text[next])) {
-                number = number * 10 + (text[next] - '0');
-                next++;
-            }
-            sort = next - at <= LONGEST_WHOLE ? WHOLE : NO_TOKEN;
         }
 
         private static boolean isLetter(byte b) {
@@ -1406,7 +1400,7 @@ public final class CorkStreet {
         }
 
         private boolean takeNewName(int sort, int number) {
-            if (!isName()) {
+            if (tokens.sort != Tokens.WORD || lineSort() != NO_LINE) {
                 return fail(FORM);
             }
             if (findName() >= 0) {
@@ -1425,7 +1419,7 @@ public final class CorkStreet {
 
         /** The number of what the name here was told of; -1 and a FAULT if it isn't of that sort. */
         private int numberOfName(int sort) {
-            if (!isName()) {
+            if (tokens.sort != Tokens.WORD || lineSort() != NO_LINE) {
                 fail(FORM);
                 return -1;
             }
@@ -1435,10 +1429,6 @@ public final class CorkStreet {
                 return -1;
             }
             return nameNumber[i];
-        }
-
-        private boolean isName() {
-            return tokens.sort == Tokens.WORD && lineSort() == NO_LINE;
         }
 
         private int findName() {

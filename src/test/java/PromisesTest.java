@@ -528,6 +528,9 @@ public final class PromisesTest {
         due.fine("bestMove(1): the first of the raft where it is", y, y.bestMove(1), 1);
         due.refused("bestMove(2)", y, y.bestMove(2), 1);
         due.refused("bestMove(-1)", y, y.bestMove(-1), 1);
+        CorkStreet half = Due.lakeOf("lake mice 0;house a north weight 0;house b north weight 0;guest g weight 4 at b;"
+                + "corks a white 1;corks b white 3");
+        due.fine("bestMove: its weight isn't where it was", half, half.bestMove(0), 1);
         CorkStreet alone = Due.lakeOf("lake mice 0;house a north weight 0;house b north weight 9;guest g weight 1 at a");
         due.fine("bestMove where it is", alone, alone.bestMove(0), 0);
 
@@ -911,6 +914,13 @@ public final class PromisesTest {
         due.fine("eaten(0, 1)", x, x.eaten(0, 1), 1);
         due.is("SEED stays", x.size(9), 0);
         due.is("corks stay", x.corks(2, 3), 1);
+        // From 1 the draws are 149, 11249 (49 in a hundred both), from 2 they are 224 (24) and so on.
+        due.fine("weeks(1, 1, 1)", x, x.weeks(1, 1, 1), 1000);
+        due.fine("eaten(1, 1)", x, x.eaten(1, 1), 2);
+        due.fine("weeks(1, 2, 1)", x, x.weeks(1, 2, 1), 1000);
+        x.seed(1);
+        due.fine("weeks(1, 0, 1), whatever SEED is", x, x.weeks(1, 0, 1), 1002);
+        due.fine("eaten(0, 1), whatever SEED is", x, x.eaten(0, 1), 1);
         CorkStreet more = Due.lakeOf(text.replace("mice 52", "mice 53"));
         due.fine("weeks(1, 0, 2): 52 is below 53", more, more.weeks(1, 0, 2), 1000);
         due.fine("eaten(0, 2)", more, more.eaten(0, 2), 2);
