@@ -42,16 +42,16 @@ public final class CorkStreet {
 
     public CorkStreet() {
         tape = new byte[TAPE_BYTES];
-        reader = new Reader(tape);
+        reader = new Reader();
         told = new Told();
         now = new State();
         later = new State();
         rafts = new Rafts();
         memory = new Memory();
-        planner = new Planner(rafts, later);
-        hoarders = new Hoarders(rafts, later);
-        game = new Game(rafts);
-        odds = new MiceOdds(later);
+        planner = new Planner();
+        hoarders = new Hoarders();
+        game = new Game();
+        odds = new MiceOdds();
     }
 
     // ---- the lake
@@ -73,7 +73,7 @@ public final class CorkStreet {
             return NONE;
         }
         taped = 0;
-        reader.read(n);
+        reader.read(tape, n);
         if (refusedBy(FAULTY, reader.fault != 0)) {
             return NONE;
         }
@@ -982,7 +982,7 @@ public final class CorkStreet {
         private static final int LONGEST_WORD = 8;
         private static final int LONGEST_WHOLE = 3;
 
-        private final byte[] text;
+        private byte[] text = new byte[0];
         private int end;
         private int next;
         int at;
@@ -990,11 +990,8 @@ public final class CorkStreet {
         int number;
         long letters;
 
-        Tokens(byte[] text) {
-            this.text = text;
-        }
-
-        void start(int n) {
+        void start(byte[] tape, int n) {
+            text = tape;
             end = Math.min(n, text.length);
             next = 0;
             advance();
@@ -1075,7 +1072,7 @@ public final class CorkStreet {
 
         int fault;
         int place;
-        private final Tokens tokens;
+        private final Tokens tokens = new Tokens();
         private Told told = new Told();
         private boolean hasLake;
         private int names;
@@ -1084,10 +1081,6 @@ public final class CorkStreet {
         private final int[] nameNumber = new int[MOST_NAMES];
         private int whole;
 
-        Reader(byte[] text) {
-            tokens = new Tokens(text);
-        }
-
         /** What was read, for another one to read into. */
         Told exchange(Told spare) {
             Told full = told;
@@ -1095,13 +1088,13 @@ public final class CorkStreet {
             return full;
         }
 
-        void read(int n) {
+        void read(byte[] tape, int n) {
             told.clear();
             fault = 0;
             place = 0;
             hasLake = false;
             names = 0;
-            tokens.start(n);
+            tokens.start(tape, n);
             boolean more = true;
             for (int line = 0; line < TAPE_BYTES && more; line++) {
                 if (!readLine()) {
@@ -1605,19 +1598,14 @@ public final class CorkStreet {
         private static final int AGES = 4;
 
         int bottles;
-        private final Rafts rafts;
-        private final State later;
+        private final Rafts rafts = new Rafts();
+        private final State later = new State();
         private int mostDays;
         private final int[] lacking = new int[Told.MOST_HOUSES * AGES];
         private final int[] triedDays = new int[Told.MOST_DRINKERS];
         private final int[] triedHouse = new int[Told.MOST_DRINKERS];
         private final int[] days = new int[Told.MOST_DRINKERS];
         private final int[] house = new int[Told.MOST_DRINKERS];
-
-        Planner(Rafts rafts, State later) {
-            this.rafts = rafts;
-            this.later = later;
-        }
 
         int daysOf(int d) {
             return bottles < 0 ? NO_ANSWER : days[d];
@@ -1724,13 +1712,8 @@ public final class CorkStreet {
     static final class Hoarders {
         int count;
         final int[] fitting = new int[1 << Told.MOST_DRINKERS];
-        private final Rafts rafts;
-        private final State first;
-
-        Hoarders(Rafts rafts, State first) {
-            this.rafts = rafts;
-            this.first = first;
-        }
+        private final Rafts rafts = new Rafts();
+        private final State first = new State();
 
         void find(Told told) {
             count = 0;
@@ -1797,11 +1780,7 @@ public final class CorkStreet {
     static final class Game {
         private static final int WHITE_LIFT = 2;
 
-        private final Rafts rafts;
-
-        Game(Rafts rafts) {
-            this.rafts = rafts;
-        }
+        private final Rafts rafts = new Rafts();
 
         int valueOf(Told told, State now, int moves) {
             rafts.weigh(told, now);
@@ -1877,11 +1856,7 @@ public final class CorkStreet {
         long dryShare;
         long heightSum;
         long lossSum;
-        private final State later;
-
-        MiceOdds(State later) {
-            this.later = later;
-        }
+        private final State later = new State();
 
         void follow(Told told, State now, int h, int weeks) {
             whole = 1;
