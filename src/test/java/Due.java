@@ -2,6 +2,7 @@
 final class Due {
     private int wrong;
     private int asked;
+    private String test = "";
 
     static CorkStreet lakeOf(String text) {
         CorkStreet x = new CorkStreet();
@@ -29,12 +30,21 @@ final class Due {
         return number;
     }
 
+    /** What is asked from now on belongs to a test of that name. */
+    void begin(String name) {
+        test = name.isEmpty() ? "" : name + ": ";
+    }
+
     void is(String what, long got, long due) {
+        is(what, Long.toString(got), Long.toString(due));
+    }
+
+    void is(String what, String got, String due) {
         asked++;
-        if (got != due) {
+        if (!got.equals(due)) {
             wrong++;
             if (wrong <= 40) {
-                System.out.println(what + " answered " + got + ", due is " + due);
+                System.out.println(test + what + " answered " + got + ", due is " + due);
             }
         }
     }
