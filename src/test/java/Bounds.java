@@ -147,14 +147,17 @@ abstract class Bounds {
         due.is("where() behind " + what, x.where(), NONE);
     }
 
-    /** A question that isn't refused: it leaves all as it was. */
+    /** A question that isn't refused: it leaves all as it was, and is answered alike again. */
     final void answers(CorkStreet x, String what, long answer, ToLongFunction<CorkStreet> call) {
         String before = picture(x);
         taken(x, what, answer, call);
+        taken(x, what + " again", answer, call);
         due.is("all as it was behind " + what, picture(x), before);
     }
 
+    /** Such a question as the first of all, too: none lives on what another one worked out. */
     final void answers(String text, String what, long answer, ToLongFunction<CorkStreet> call) {
+        taken(made(text), what + " at first", answer, call);
         answers(made(text), what, answer, call);
     }
 

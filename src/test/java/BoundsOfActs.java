@@ -257,6 +257,23 @@ final class BoundsOfActs extends Bounds {
         due.is("all as ahead of tie", picture(x), before);
     }
 
+    void promise49_undoOfEachActWhereAllIsFull() {
+        String full = BoundsOfText.full();
+        for (int g = 0; g < 3; g++) {
+            int guest = g;
+            undone(full, "move " + g, 1, x -> bit(x.move(guest, 4)));
+        }
+        for (int k = 0; k < 5; k++) {
+            int rope = k;
+            undone(full, "cut " + k, 1, x -> bit(x.cut(rope)));
+        }
+        for (int d = 0; d < 3; d++) {
+            int drinker = d;
+            undone(full, "drink " + d, 31, x -> x.drink(drinker, 4));
+        }
+        undone(full, "week", 0, x -> x.week());
+    }
+
     void promise49_undoOf16ActsButNotOf17() {
         for (int acts = KEPT - 1; acts <= KEPT + 2; acts++) {
             int kept = Math.min(acts, KEPT);

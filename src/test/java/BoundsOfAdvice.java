@@ -243,6 +243,12 @@ final class BoundsOfAdvice extends Bounds {
         }
     }
 
+    void promise23_planDaysAreWithoutFeasts() {
+        String high = BARE + ";drinker p white drinks 1;feast a week 9 high 4";
+        answers(high, "nobody is UNDER", 0, x -> x.planDays(0, 4));
+        answers(high, "but the feast is wet", 2, x -> x.feasts(4));
+    }
+
     // ---- Promise 24
 
     void promise24_planHouseOfADrinkerThatThereIs() {
@@ -318,6 +324,15 @@ final class BoundsOfAdvice extends Bounds {
             answers(red + Math.max(1, 4 * lift), "by four in week " + week, lift == 0 ? -2 : 4, x -> x.feasts(4));
             answers(red + (4 * lift + 1), "by none in week " + week, -2, x -> x.feasts(4));
         }
+    }
+
+    void promise25_feastsAsCorksThereGoSoft() {
+        String red = BARE + ";corks a red 2;drinker p white drinks 1;feast a week ";
+        int[] bottles = {0, 1, 2, 3, 3};
+        for (int week = 0; week < bottles.length; week++) {
+            answers(red + week + " high 6", "6 in week " + week, bottles[week], x -> x.feasts(4));
+        }
+        answers(red + 9 + " high 6", "6 in week 9", 3, x -> x.feasts(4));
     }
 
     void promise25_feastsOfARaftAskForItsHeight() {

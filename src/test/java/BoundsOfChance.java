@@ -5,6 +5,8 @@ final class BoundsOfChance extends Bounds {
     private static final String DRINKERS = BARE + ";drinker p white drinks 1;drinker q fizzy drinks 1;drinker r red drinks 1";
     /** White of p, fizzy of q and red of r lift 2, 4 and 3. */
     private static final String GAVE = DRINKERS + ";gave p a 1;gave q a 1;gave r a 1";
+    /** One of p and q gave, but not both. */
+    private static final String EITHER = BARE + ";drinker p white drinks 1;drinker q white drinks 1;gave p a 1;gave q a 1;seen a over 2";
     private static final String FIVE = "lake mice 0;house a north weight 0;house b north weight 0;house c north weight 0;"
             + "house d north weight 0;house e north weight 0";
     private static final String SOUTH = "lake mice 50;house a south weight 0;house b north weight 1;corks b white 1;corks a white 1";
@@ -115,6 +117,12 @@ final class BoundsOfChance extends Bounds {
         answers(DRINKERS + ";gave p a 1;seen a over 0", "p, whatever the others did", 1, x -> x.surely());
     }
 
+    void promise30_surelyIsNobodyOfTwoWhoMayBoth() {
+        answers(EITHER, "p or q", 0, x -> x.surely());
+        answers(EITHER, "p or q", 3, x -> x.could());
+        sets(EITHER, 1, 2);
+    }
+
     // ---- Promises 31 and 32
 
     void promise31_askNeedsASetAndADrinker() {
@@ -131,6 +139,7 @@ final class BoundsOfChance extends Bounds {
         answers(DRINKERS + ";gave p a 1;gave r a 1;seen a over 2", "only of the second", 1, x -> x.ask());
         answers(DRINKERS + ";gave p a 1;seen a over 2", "of the second and the last", 1, x -> x.ask());
         answers(BARE + ";drinker p red drinks 1", "one drinker", 0, x -> x.ask());
+        answers(EITHER, "by both of two alike", 0, x -> x.ask());
     }
 
     void promise32_askLeavesNeedsASetAndADrinker() {
@@ -181,6 +190,8 @@ final class BoundsOfChance extends Bounds {
         for (int n = 0; n <= 4; n++) {
             int moves = n;
             answers(FIVE.replace("weight 0", "weight 5"), "all stay UNDER", 0, x -> x.value(moves));
+            answers(FIVE.replace("weight 0", "weight 5") + ";rope a b;rope b c;rope c d;rope d e;rope e a", "a ring stays UNDER", 0,
+                    x -> x.value(moves));
             answers(FIVE + ";rope a b;rope b c;rope c d;rope d e;rope e a", "nobody goes UNDER", 5, x -> x.value(moves));
             answers("lake mice 0;house a north weight 3", "one house", n < 4 ? 0 : 1, x -> x.value(moves));
             answers("lake mice 0;house a north weight 2", "one house", n < 2 ? 0 : 1, x -> x.value(moves));
@@ -201,6 +212,25 @@ final class BoundsOfChance extends Bounds {
         answers(made(raft, x -> x.cut(1)), "the rope is cut NOW", 2, x -> x.value(0));
     }
 
+    void promise34_valueWhereTheKingCutsTwice() {
+        String star = "lake mice 0;house a north weight 9;house b north weight 0;house c north weight 9;rope a b;rope c b;corks b soft 18";
+        int[] values = {3, 2, 2, 1, 1};
+        for (int n = 0; n <= 4; n++) {
+            int moves = n;
+            answers(star, n + " moves", values[n], x -> x.value(moves));
+        }
+    }
+
+    void promise34_valueWhereTheVillageHelpsByItsLastMove() {
+        // As a RAFT of -1 both come up by a cork; cut, a stays UNDER.
+        String raft = "lake mice 0;house a north weight 5;house b north weight 0;rope a b;corks b soft 4";
+        int[] values = {0, 0, 1, 1, 1};
+        for (int n = 0; n <= 4; n++) {
+            int moves = n;
+            answers(raft, n + " moves", values[n], x -> x.value(moves));
+        }
+    }
+
     void promise35_kingCutsIn1To4Moves() {
         never(NO_LAKE, "kingCuts", 1, (x, n) -> x.kingCuts(n));
         refused(NO_LAKE, "kingCuts(5)", 1, x -> x.kingCuts(5));
@@ -219,6 +249,17 @@ final class BoundsOfChance extends Bounds {
         }
         // To cut would help the village.
         answers("lake mice 0;house a north weight 7;house b south weight 0;rope a b", "none is better", -2, x -> x.kingCuts(1));
+    }
+
+    void promise35_kingCutsByWhatComesBehindIt() {
+        String raft = "lake mice 0;house a north weight 5;house b north weight 0;rope a b;corks b soft 4";
+        int[] cuts = {-2, 0, -2, -2};
+        String star = "lake mice 0;house a north weight 9;house b north weight 0;house c north weight 9;rope a b;rope c b;corks b soft 18";
+        for (int n = 1; n <= 4; n++) {
+            int moves = n;
+            answers(raft, n + " moves", cuts[n - 1], x -> x.kingCuts(moves));
+            answers(star, n + " moves", 0, x -> x.kingCuts(moves));
+        }
     }
 
     void promise35_kingCutsTheFirstOfLikeOnes() {
@@ -339,6 +380,15 @@ final class BoundsOfChance extends Bounds {
         odds("lake mice 0;house a north weight 99;guest f weight 50 at a;guest g weight 50 at a;guest h weight 50 at a", 0, "mean", 4, 751, 1);
     }
 
+    void promise37_meanAsCorksGoSoft() {
+        String red = "lake mice 0;house a north weight 0;corks a red 30;corks a white 1";
+        int[] heights = {1092, 1062, 1032, 1002, 1002};
+        for (int n = 0; n <= 4; n++) {
+            odds(red, 0, "mean", n, heights[n], 1);
+            odds(red.replace("mice 0;house a north weight 0", "mice 0;house a north weight 32"), 0, "dry", n, n <= 2 ? 1 : 0, 1);
+        }
+    }
+
     void promise38_safestIn0To4Weeks() {
         never(NO_LAKE, "safest", 1, (x, n) -> x.safest(n));
         refused(NO_LAKE, "safest(5)", 1, x -> x.safest(5));
@@ -359,6 +409,9 @@ final class BoundsOfChance extends Bounds {
             answers(north.replace("weight 1", "weight 9"), "all surely UNDER", 1, x -> x.safest(weeks));
         }
         answers(north.replace("corks d white 2", "corks d white 1"), "all alike", 1, x -> x.safest(4));
+        answers(BARE, "the only house", 0, x -> x.safest(4));
+        answers(FIVE, "the first of five", 0, x -> x.safest(4));
+        answers(FIVE.replace("weight 0", "weight 1") + ";corks e white 1", "the last of five", 4, x -> x.safest(4));
     }
 
     void promise39_lossesOfAHouseThatThereIs() {

@@ -215,6 +215,19 @@ final class BoundsOfLake extends Bounds {
         taken(x, "image()", 0, y -> y.image());
     }
 
+    void promise03_nothingOfAFormerLakeOrTextIsLeft() {
+        String least = picture(made(BARE));
+        CorkStreet x = made(BoundsOfText.full());
+        due.is("the least behind the fullest", Due.lake(x, BARE), 1);
+        due.is("all", picture(x), least);
+        due.is("a full text with a FAULT", Due.lake(x, BoundsOfText.full() + ";"), NONE);
+        due.is("the least behind it", Due.lake(x, BARE), 1);
+        due.is("all", picture(x), least);
+        due.is("the side", x.house(0, 0), 0);
+        due.is("the least of a south house", Due.lake(x, BARE.replace("north", "south")), 1);
+        due.is("the side", x.house(0, 0), 1);
+    }
+
     void promise03_theLakeStaysBy2And4() {
         CorkStreet x = made(ROPED, y -> {
             y.image();

@@ -416,6 +416,35 @@ final class BoundsOfText extends Bounds {
         due.is("the same names again", Due.lake(x, FORMER), 2);
     }
 
+    void termsI_namesAreTheirLettersInTheirOrder() {
+        String[] names = {"a", "z", "aa", "az", "ba", "ab", "zz", "aaa", "abcdefgh", "bacdefgh", "abcdefhg"};
+        for (String one : names) {
+            for (String other : names) {
+                if (one.equals(other)) {
+                    fault(3, "lake mice 5;house " + one + " north weight 5;house ^" + other + " north weight 5");
+                } else {
+                    told(2, "lake mice 5;house " + one + " north weight 5;house " + other + " north weight 5;rope " + other + " " + one);
+                }
+            }
+        }
+    }
+
+    void termsI_wordsOfTheFormAreTheirLetters() {
+        String text = TWO + ";rope a b;corks a red 1;corks a stale 1;corks a soft 1;corks a white 1;corks a fizzy 1;"
+                + "guest g weight 5 at a;drinker d red drinks 1;drinker e white drinks 1;drinker f fizzy drinks 1;"
+                + "feast a week 1 high 1;gave d a 1;seen a over 1;seen b below 1";
+        told(2, text);
+        for (int at = 0; at < text.length(); at++) {
+            int first = text.lastIndexOf(' ', at) + 1;
+            first = Math.max(first, text.lastIndexOf(';', at) + 1);
+            boolean name = text.substring(first).matches("(?s)[a-z]([ ;].*)?");
+            if (Character.isLowerCase(text.charAt(at)) && !name) {
+                char other = (char) ('a' + (text.charAt(at) - 'a' + 13) % 26);
+                fault(1, text.substring(0, first) + "^" + text.substring(first, at) + other + text.substring(at + 1));
+            }
+        }
+    }
+
     // ---- FAULTS
 
     void termsI_theFirstFaultFromTheLeft() {
