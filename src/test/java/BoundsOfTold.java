@@ -115,9 +115,9 @@ final class BoundsOfTold extends Bounds {
     }
 
     void promise53_sizeChangesNothing() {
-        CorkStreet x = made(THREE);
-        String before = picture(x);
         for (int what : new int[] {0, 12, -1, 13, LEAST, MOST}) {
+            CorkStreet x = made(THREE);
+            String before = picture(x);
             x.lake(-1);
             x.size(what);
             due.is("trouble() behind size(" + what + ")", x.trouble(), 2);
