@@ -96,6 +96,7 @@ final class BoundsOfAdvice extends Bounds {
         answers(FIVE + ";guest g weight 9 at c", "the lowest is another, so anywhere but there", 0, x -> x.bestStay(9));
         answers(FIVE + ";guest g weight 9 at a", "the lowest is the first", 1, x -> x.bestStay(9));
         answers(FIVE + ";guest g weight 9 at a", "10 would be lower than -9 anywhere alone", 1, x -> x.bestStay(10));
+        answers(FIVE + ";guest f weight 9 at a;guest g weight 5 at b", "a is the lowest, wherever but there", 1, x -> x.bestStay(3));
     }
 
     // ---- Promise 20

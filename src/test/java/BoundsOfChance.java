@@ -117,6 +117,14 @@ final class BoundsOfChance extends Bounds {
         answers(DRINKERS + ";gave p a 1;seen a over 0", "p, whatever the others did", 1, x -> x.surely());
     }
 
+    void promise30_surelyIsNobodyBehindALakeThatHadASet() {
+        CorkStreet x = made(GAVE + ";seen a over 0");
+        due.is("all", x.surely(), 7);
+        due.is("a LAKE without a set", Due.lake(x, GAVE + ";seen a over 1"), 1);
+        answers(x, "0 without a set", 0, y -> y.surely());
+        answers(x, "nobody of no set", 0, y -> y.could());
+    }
+
     void promise30_surelyIsNobodyOfTwoWhoMayBoth() {
         answers(EITHER, "p or q", 0, x -> x.surely());
         answers(EITHER, "p or q", 3, x -> x.could());
@@ -210,6 +218,18 @@ final class BoundsOfChance extends Bounds {
             answers(raft.replace("weight 4", "weight 5"), n + " moves", heavier[n], x -> x.value(moves));
         }
         answers(made(raft, x -> x.cut(1)), "the rope is cut NOW", 2, x -> x.value(0));
+    }
+
+    void promise34_valueByOneCorkOfTheVillageEachTime() {
+        // Each house comes up by one cork, but by its own alone.
+        int[] values = {0, 0, 1, 1, 2};
+        int[] heavier = {0, 0, 0, 0, 1};
+        for (int n = 0; n <= 4; n++) {
+            int moves = n;
+            answers(FIVE.replace("weight 0", "weight 2"), n + " moves", values[n], x -> x.value(moves));
+            answers(FIVE.replace("weight 0", "weight 3"), n + " moves", heavier[n], x -> x.value(moves));
+            answers(FIVE.replace("weight 0", "weight 2") + ";rope d e", "a rope doesn't help", values[n], x -> x.value(moves));
+        }
     }
 
     void promise34_valueWhereTheKingCutsTwice() {
@@ -409,6 +429,8 @@ final class BoundsOfChance extends Bounds {
             answers(north.replace("weight 1", "weight 9"), "all surely UNDER", 1, x -> x.safest(weeks));
         }
         answers(north.replace("corks d white 2", "corks d white 1"), "all alike", 1, x -> x.safest(4));
+        answers(north.replace("corks b white 1", "corks b white 3"), "d is less likely dry in 4 weeks than b", 1, x -> x.safest(4));
+        answers(north.replace("corks c white 1", "corks c white 30"), "d is less likely dry in 4 weeks than c", 2, x -> x.safest(4));
         answers(BARE, "the only house", 0, x -> x.safest(4));
         answers(FIVE, "the first of five", 0, x -> x.safest(4));
         answers(FIVE.replace("weight 0", "weight 1") + ";corks e white 1", "the last of five", 4, x -> x.safest(4));

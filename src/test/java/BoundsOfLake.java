@@ -228,6 +228,25 @@ final class BoundsOfLake extends Bounds {
         due.is("the side", x.house(0, 0), 1);
     }
 
+    void promise03_noAnswerLivesOnAFormerLake() {
+        String gave = ";drinker p white drinks 1;drinker q red drinks 1;gave p a 1;gave q a 1;seen a over ";
+        String[] lakes = {BARE, BoundsOfText.full(), ROPED, BARE + gave + 3, BARE + gave + 4, BARE.replace("north", "south"),
+            "lake mice 50;house a south weight 3;house b north weight 1;drinker p red drinks 3;feast b week 9 high 9"};
+        for (String former : lakes) {
+            for (String later : lakes) {
+                for (Call call : Calls.all()) {
+                    CorkStreet x = made(former);
+                    call.call().applyAsLong(x);
+                    due.is("houses", Due.lake(x, later), made(later).size(1));
+                    CorkStreet alone = made(later);
+                    long answer = call.call().applyAsLong(alone);
+                    due.is(call.name() + " of " + later + " behind " + former, call.call().applyAsLong(x), answer);
+                    due.is("trouble() behind it", x.trouble(), alone.trouble());
+                }
+            }
+        }
+    }
+
     void promise03_theLakeStaysBy2And4() {
         CorkStreet x = made(ROPED, y -> {
             y.image();

@@ -269,6 +269,7 @@ final class BoundsOfNow extends Bounds {
         String high = "lake mice 0;house a north weight 0;corks a white 25;feast a week 9 high 50";
         answers(high, "50", -2, x -> x.wetFeast());
         answers(high + ";guest g weight 1 at a", "49", 0, x -> x.wetFeast());
+        answers(high + ";corks a fizzy 1", "54", -2, x -> x.wetFeast());
         answers(BARE + ";feast a week 0 high 1", "0 of 1", 0, x -> x.wetFeast());
         answers(BARE + ";guest g weight 1 at a;feast a week 0 high 0", "-1 of 0", 0, x -> x.wetFeast());
     }

@@ -10,8 +10,17 @@ final class BoundsOfText extends Bounds {
         super(due);
     }
 
-    /** A text with a FAULT where the sign ^ stands, which is no part of it; the former LAKE stays with all that was done. */
+    /** A text with a FAULT where the sign ^ stands, which is no part of it; what comes behind the FAULT doesn't matter. */
     private void fault(int number, String marked) {
+        faultAlone(number, marked);
+        if (!marked.endsWith("^")) {
+            faultAlone(number, marked + ";!");
+            faultAlone(number, marked + ";lake mice 999");
+        }
+    }
+
+    /** The former LAKE stays with all that was done. */
+    private void faultAlone(int number, String marked) {
         int place = marked.indexOf('^');
         String text = marked.substring(0, place) + marked.substring(place + 1);
         CorkStreet x = made(FORMER, y -> {
@@ -148,9 +157,9 @@ final class BoundsOfText extends Bounds {
         }
         CorkStreet x = told(1, text + "7");
         due.is("corks by the last byte", x.corks(0, 0), 7);
-        fault(1, text + "^;");
-        fault(1, text + " ^");
-        fault(1, text + "^x");
+        faultAlone(1, text + "^;");
+        faultAlone(1, text + " ^");
+        faultAlone(1, text + "^x");
     }
 
     // ---- LINES, each with its bounds
